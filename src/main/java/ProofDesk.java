@@ -28,12 +28,10 @@ public final class ProofDesk {
     private static final int GREAT = -7;
     private static final int WRONG_CLAIM = -8;
 
-    private final char[] draftText;
-    private int draftLength;
+    private final Draft paper;
     private final Clause[] desk;
     private int count;
     private final Uses uses;
-    private final Reader reader;
     private final Form claim;
     private boolean claimed;
     private int claimFault;
@@ -42,22 +40,16 @@ public final class ProofDesk {
     private int latestFault;
 
     public ProofDesk() {
-        draftText = new char[MAX_DRAFT];
+        paper = new Draft();
         desk = new Clause[MAX_CLAUSES];
         uses = new Uses();
-        reader = new Reader(draftText);
         claim = new Form();
         deduction = new Deduction();
         matcher = new Matcher();
     }
 
     public boolean write(char c) {
-        if (draftLength >= MAX_DRAFT || c < ' ' || c > '~') {
-            return false;
-        }
-        draftText[draftLength] = c;
-        draftLength++;
-        return true;
+        return paper.append(c);
     }
 
     public int given() throws IllegalArgumentException, IllegalStateException {
@@ -144,11 +136,11 @@ public final class ProofDesk {
 
     public boolean trivial(int clause) {
         Clause found = clauseAt(clause);
-        return found != null && found.form.isTrue();
+        return found != null && found.form.isAlwaysTrue();
     }
 
     public int draft() {
-        return draftLength;
+        return paper.length;
     }
 
     private Clause clauseAt(int number) {
@@ -157,13 +149,14 @@ public final class ProofDesk {
 
     /** The draft is read at once, since it is gone whatever the call then answers. */
     private void takeDraft() {
-        claimed = draftLength > 0;
-        claimFault = reader.read(draftLength, claim);
-        if (claimFault == NO_FAULT && !uses.allow(claim)) {
-            claimFault = USE;
+        claimed = paper.length > 0;
+        if (!paper.read(claim)) {
+            claimFault = SYNTAX;
+        } else {
+            claimFault = uses.allow(claim) ? NO_FAULT : USE;
         }
         claim.nameVariables();
-        draftLength = 0;
+        paper.length = 0;
     }
 
     /** Adds the clause of a right step, or tells the first fault in the document's order. */
@@ -172,30 +165,31 @@ public final class ProofDesk {
             return NO_ROOM;
         }
         Clause first = clauseAt(i);
-        Clause second = rule == RESOLUTION || rule == REWRITING ? clauseAt(j) : first;
+        Clause second = hasTwoParents(rule) ? clauseAt(j) : first;
         if (first == null || second == null || !isThere(rule, first.form, k, second.form, l, p)) {
             return NOT_THERE;
         }
         if (claimed && claimFault != NO_FAULT) {
             return claimFault;
         }
-        Form made = claim;
-        if (rule == SPECIALISING) {
-            if (!matcher.canSpecialise(first.form, claim)) {
-                return WRONG_CLAIM;
-            }
-        } else {
-            int why = deduction.apply(rule, first.form, k, second.form, l, p);
-            if (why != NO_FAULT) {
-                return why;
-            }
-            made = deduction.result;
-            if (claimed && !made.isSame(claim)) {
-                return WRONG_CLAIM;
-            }
+        int why = rule == SPECIALISING ? NO_FAULT : deduction.apply(rule, first.form, k, second.form, l, p);
+        if (why != NO_FAULT) {
+            return why;
         }
+        if (claimed && !isClaimRight(rule, first.form)) {
+            return WRONG_CLAIM;
+        }
+        Form made = rule == SPECIALISING ? claim : deduction.result;
         addClause(made, 1 + Math.max(first.level, second.level), first.sources | second.sources);
         return NO_FAULT;
+    }
+
+    private boolean isClaimRight(int rule, Form parent) {
+        return rule == SPECIALISING ? matcher.canSpecialise(parent, claim) : deduction.result.isSame(claim);
+    }
+
+    private static boolean hasTwoParents(int rule) {
+        return rule == RESOLUTION || rule == REWRITING;
     }
 
     private boolean isThere(int rule, Form first, int k, Form second, int l, int p) {
@@ -328,14 +322,12 @@ public final class ProofDesk {
         int count;
         int length;
         private int opened;
-        private final int[] names;
 
         /** Has room for a whole clause and one literal more, which may still prove to be the same as another. */
         Form() {
             symbols = new int[2 * MAX_SIZE];
             ends = new int[MAX_LITERALS + 1];
             negated = new boolean[MAX_LITERALS + 1];
-            names = new int[2 * MAX_SIZE];
         }
 
         /** A copy that is kept: it has just the room that it needs. */
@@ -348,7 +340,6 @@ public final class ProofDesk {
             }
             count = other.count;
             length = other.length;
-            names = new int[0];
         }
 
         void clear() {
@@ -436,19 +427,28 @@ public final class ProofDesk {
 
         /** Calls the variables 0, 1, .. as they come first, and answers how many there are. */
         int nameVariables() {
-            Arrays.fill(names, -1);
             int many = 0;
             for (int at = 0; at < length; at++) {
-                int variable = Symbol.variable(symbols[at]);
-                if (Symbol.isVariable(symbols[at]) && variable < names.length) {
-                    if (names[variable] < 0) {
-                        names[variable] = many;
-                        many++;
-                    }
-                    symbols[at] = Symbol.ofVariable(names[variable]);
+                if (Symbol.isVariable(symbols[at])) {
+                    many++;
+                    replaceFrom(at, symbols[at], -many);
+                }
+            }
+            for (int at = 0; at < length; at++) {
+                if (symbols[at] < 0) {
+                    symbols[at] = Symbol.ofVariable(-symbols[at] - 1);
                 }
             }
             return many;
+        }
+
+        /** The new names are below 0 at first, so that none of them is taken for an old one. */
+        private void replaceFrom(int from, int symbol, int by) {
+            for (int at = from; at < length; at++) {
+                if (symbols[at] == symbol) {
+                    symbols[at] = by;
+                }
+            }
         }
 
         boolean isSame(Form other) {
@@ -468,7 +468,7 @@ public final class ProofDesk {
             return true;
         }
 
-        boolean isTrue() {
+        boolean isAlwaysTrue() {
             for (int literal = 0; literal < count; literal++) {
                 if (!negated[literal] && isEquation(literal) && hasSameSides(literal)) {
                     return true;
@@ -528,32 +528,41 @@ public final class ProofDesk {
         }
     }
 
-    /** Reads the draft as a clause. */
-    private static final class Reader {
+    /** The text that is being written, and its reading as a clause. */
+    private static final class Draft {
         private final char[] text;
-        private int end;
         private int at;
+        int length;
 
-        Reader(char[] text) {
-            this.text = text;
+        Draft() {
+            text = new char[MAX_DRAFT];
         }
 
-        int read(int length, Form out) {
+        boolean append(char c) {
+            if (length >= MAX_DRAFT || c < ' ' || c > '~') {
+                return false;
+            }
+            text[length] = c;
+            length++;
+            return true;
+        }
+
+        /** False when the text is no clause. */
+        boolean read(Form out) {
             at = 0;
-            end = Math.min(length, text.length);
             out.clear();
-            return readClause(out) ? NO_FAULT : SYNTAX;
+            return readClause(out);
         }
 
         private boolean readClause(Form out) {
-            if (end == 1 && text[0] == '#') {
+            if (length == 1 && text[0] == '#') {
                 return true;
             }
             for (int literal = 0; literal < MAX_DRAFT; literal++) {
                 if (!readLiteral(out)) {
                     return false;
                 }
-                if (at == end) {
+                if (at == length) {
                     return true;
                 }
                 if (!take('|')) {
@@ -573,7 +582,7 @@ public final class ProofDesk {
 
         /** The sign between the sides is looked for first, because it is kept before both. */
         private boolean isEquationAhead() {
-            for (int ahead = at; ahead < end && text[ahead] != '|'; ahead++) {
+            for (int ahead = at; ahead < length && text[ahead] != '|'; ahead++) {
                 if (text[ahead] == '=') {
                     return true;
                 }
@@ -582,11 +591,11 @@ public final class ProofDesk {
         }
 
         private boolean isVariableAhead() {
-            return at < end && text[at] >= 'A' && text[at] <= 'Z';
+            return at < length && text[at] >= 'A' && text[at] <= 'Z';
         }
 
         private boolean readTerm(Form out, int level) {
-            if (level >= MAX_DRAFT / 2 || at >= end) {
+            if (level >= MAX_DRAFT / 2 || at >= length) {
                 return false;
             }
             char c = text[at];
@@ -621,7 +630,7 @@ public final class ProofDesk {
         }
 
         private boolean take(char c) {
-            if (at >= end || text[at] != c) {
+            if (at >= length || text[at] != c) {
                 return false;
             }
             at++;
@@ -794,7 +803,7 @@ public final class ProofDesk {
         private boolean copyTerm(int root, Form out) {
             ones[0] = root;
             waiting = 1;
-            for (int put = 0; put <= MAX_SIZE && waiting > 0; put++) {
+            for (int round = 0; round <= MAX_SIZE && waiting > 0; round++) {
                 waiting--;
                 int node = roots[ones[waiting]];
                 int terms = Symbol.terms(symbols[node]);
@@ -834,7 +843,7 @@ public final class ProofDesk {
         }
 
         int apply(int rule, Form first, int k, Form second, int l, int p) {
-            boolean two = rule == RESOLUTION || rule == REWRITING;
+            boolean two = hasTwoParents(rule);
             graph.load(first);
             if (two) {
                 graph.append(second, MAX_VARIABLES);

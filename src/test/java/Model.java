@@ -465,7 +465,8 @@ final class Model {
         }
         List<Literal> literals = entries.get(clause).literals;
         for (Literal literal : literals) {
-            boolean sides = literal.atom.name.equals("=") && literal.atom.parts.get(0).equals(literal.atom.parts.get(1));
+            List<Tree> parts = literal.atom.parts;
+            boolean sides = literal.atom.name.equals("=") && parts.get(0).equals(parts.get(1));
             if (!literal.negated && sides || literals.contains(new Literal(!literal.negated, literal.atom))) {
                 return true;
             }

@@ -14,6 +14,7 @@ final class ModelTest {
     private Model model;
     private int greatness;
     private int names;
+    private boolean bushy;
 
     public static void main(String[] args) {
         ModelTest test = new ModelTest();
@@ -52,8 +53,9 @@ final class ModelTest {
         below(2);
         desk = new ProofDesk();
         model = new Model();
-        greatness = 1 + below(4);
+        greatness = 1 + below(5);
         names = 1 + below(5);
+        bushy = below(3) == 0;
         int starts = 2 + below(5);
         for (int given = 0; given < starts; given++) {
             give(clause());
@@ -89,7 +91,7 @@ final class ModelTest {
     // ---- making texts ----
 
     private String term(int deep) {
-        int kind = below(deep <= 0 ? 4 : 8);
+        int kind = deep <= 0 ? below(4) : bushy ? 3 + below(5) : below(8);
         switch (kind) {
             case 0:
             case 1:
@@ -127,12 +129,15 @@ final class ModelTest {
     }
 
     private String clause() {
-        int many = 1 + below(below(6) == 0 ? 8 : 3);
+        int many = 1 + below(below(6) == 0 ? 8 : bushy ? 5 : 3);
         StringBuilder out = new StringBuilder(literal());
         for (int literal = 1; literal < many; literal++) {
-            out.append('|').append(literal());
+            String more = literal();
+            if (out.length() + more.length() < 60) {
+                out.append('|').append(more);
+            }
         }
-        return out.length() > 60 ? literal() : out.toString();
+        return out.toString();
     }
 
     private String spoilt(String text) {
@@ -154,11 +159,16 @@ final class ModelTest {
         return below(25) == 0 ? below(bound + 3) - 1 : below(Math.max(bound, 1));
     }
 
+    /** Late clauses are taken more often, because what is great comes from what has grown. */
+    private int clauseNumber(int many) {
+        return below(2) == 0 ? number(many) : many - 1 - below(Math.max(Math.min(many, 5), 1));
+    }
+
     private int[] anyStep() {
         int many = model.entries.size();
         int rule = below(40) == 0 ? below(9) - 2 : below(5);
-        int i = number(many);
-        int j = number(many);
+        int i = clauseNumber(many);
+        int j = clauseNumber(many);
         int k = number(Math.max(model.literals(i), 0));
         int l = number(Math.max(model.literals(rule == 1 ? i : j), 0));
         int p = below(20) == 0 ? below(300) - 50 : below(6) + (below(2) == 0 ? 0 : 100);
@@ -167,7 +177,8 @@ final class ModelTest {
 
     private void tryStep() {
         int[] step = anyStep();
-        for (int more = below(30); more > 0 && codeOf(step) != 0; more--) {
+        int aim = bushy && below(3) == 0 ? -7 : 0;
+        for (int more = below(aim == 0 ? 30 : 90); more > 0 && codeOf(step) != aim; more--) {
             step = anyStep();
         }
         write(claimFor(step));

@@ -8,17 +8,22 @@ final class Promise03GivenTest {
         {"q(X)|q(X)", "q(A)"}, {"q(X)|q(Y)|q(X)", "q(A)|q(B)"}, {"a=b|b=a|a=b", "a=b|b=a"},
         {"p|q|r|s|t|u", "p|q|r|s|t|u"}, {"p|q|r|p|s|t|u|u|p", "p|q|r|s|t|u"},
         {"a=b|a=b|a=b|a=b|a=b|a=b|a=b|a=b|a=b|a=b|a=b|a=b|a=b|a=b|a=b", "a=b"},
-        {"p(A,B,C)|p(D,E,F)|p(G,H,I)|p(J,K,L)|p(M,N,O)|p(P,Q,R)", "p(A,B,C)|p(D,E,F)|p(G,H,I)|p(J,K,L)|p(M,N,O)|p(P,Q,R)"},
+        {"p(A,B,C)|p(D,E,F)|p(G,H,I)|p(J,K,L)|p(M,N,O)|p(P,Q,R)",
+            "p(A,B,C)|p(D,E,F)|p(G,H,I)|p(J,K,L)|p(M,N,O)|p(P,Q,R)"},
         {"Z=Y|X=W|V=U|T=S|R=Q|P=O", "A=B|C=D|E=F|G=H|I=J|K=L"},
-        {"p(f(f(f(f(f(f(f(f(f(f(f(f(f(f(f(f(f(f(a)))))))))))))))))))", "p(f(f(f(f(f(f(f(f(f(f(f(f(f(f(f(f(f(f(a)))))))))))))))))))"},
+        {"p(f(f(f(f(f(f(f(f(f(f(f(f(f(f(f(f(f(f(a)))))))))))))))))))",
+            "p(f(f(f(f(f(f(f(f(f(f(f(f(f(f(f(f(f(f(a)))))))))))))))))))"},
     };
     private static final String[] NONE = {
         "", " ", "p ", " p", "p | q", "##", "#|p", "p|#", "~#", "p|", "|p", "p||q", "|", "~", "~~p", "p~", "~|p",
         "X", "~X", "X(a)", "X(a)=b", "p()", "p(", "p)", "p(a", "p(a))", "(p)", "p(,)", "p(a,)", "p(,a)", "p(a,,b)",
         "p(a,b,c,d)", "p(f(A,B,C,D))", "f(A,B,C,D)=a", "=", "a=", "=a", "a==b", "a=b=c", "a=b=", "a~=b", "a=~b",
         "p(a=b)", "p(~a)", "p(a|b)", "p(#)", "pq", "p(a)b", "p(a)(b)", "p1", "1", "p,q", "p&q", "p(a)q(b)", "(a=b)",
-        "p|q|r|s|t|u|v", "p|q|r|s|t|u|~p", "p(a)|p(b)|p(c)|p(d)|p(e)|p(f)|p(g)", "f(f(f(f(f(f(f(f(f(f(f(f(f(f(f(f(f(f(f(f(f(f(f(f(f(f(f(f(f(f(",
-        "p(f(f(f(f(f(f(f(f(f(f(f(f(f(f(f(f(f(f(a))))))))))))))))))", "A=B|C=D|E=F|G=H|I=J|K=L|M=N", "@", "[", "`", "{", "p_",
+        "p|q|r|s|t|u|v", "p|q|r|s|t|u|~p",
+        "p(a)|p(b)|p(c)|p(d)|p(e)|p(f)|p(g)",
+        "f(f(f(f(f(f(f(f(f(f(f(f(f(f(f(f(f(f(f(f(f(f(f(f(f(f(f(f(f(f(",
+        "p(f(f(f(f(f(f(f(f(f(f(f(f(f(f(f(f(f(f(a))))))))))))))))))",
+        "A=B|C=D|E=F|G=H|I=J|K=L|M=N", "@", "[", "`", "{", "p_",
     };
     private static final String[] UNLIKE_IN_ONE = {
         "p(p)", "p(a)|p", "p|p(a)", "p|p=a", "p=a|p", "a=b|a", "f(f)=a", "f(a)=f(a,b)", "p(f)|q(f(a))", "q(a)|~q(a,a)",

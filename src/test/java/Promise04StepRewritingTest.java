@@ -45,7 +45,8 @@ final class Promise04StepRewritingTest {
     }
 
     private static void wholeClauses(Check check) {
-        ProofDesk desk = Check.deskWith("r(X)|f(X)=g(Y)|~s(Y,X)", "t|p(f(a),Z)|s(Z,Z)", "f(a)=b|p(b,X)", "~p(f(a),X)|p(b,X)");
+        ProofDesk desk = Check.deskWith("r(X)|f(X)=g(Y)|~s(Y,X)", "t|p(f(a),Z)|s(Z,Z)", "f(a)=b|p(b,X)",
+                "~p(f(a),X)|p(b,X)");
         check.step(desk, "", by(0, 1, 1, 1, 0), "r(a)|~s(A,a)|t|p(g(A),B)|s(B,B)");
         check.step(desk, "", by(2, 0, 1, 1, 0), "p(b,A)|t|p(b,B)|s(B,B)");
         check.step(desk, "", by(2, 0, 3, 0, 0), "p(b,A)|~p(b,B)|p(b,B)");

@@ -22,7 +22,8 @@ final class Promise09LetterTest {
 
     /** A result may have a text that no draft could hold. */
     private static void longText(Check check) {
-        ProofDesk desk = Check.deskWith("p(X)|q(f(f(f(f(f(f(f(f(X)))))))))", "~p(f(f(f(f(f(f(f(f(f(f(f(f(f(Y))))))))))))))",
+        ProofDesk desk = Check.deskWith("p(X)|q(f(f(f(f(f(f(f(f(X)))))))))",
+                "~p(f(f(f(f(f(f(f(f(f(f(f(f(f(Y))))))))))))))",
                 "~p(f(f(f(f(f(f(f(f(f(f(f(f(f(f(f(f(f(Z))))))))))))))))))");
         String twentyOne = "q(" + "f(".repeat(21) + "A" + ")".repeat(22);
         check.step(desk, "", Check.by(0, 0, 0, 1, 0, 0), twentyOne);

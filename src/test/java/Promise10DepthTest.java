@@ -9,11 +9,12 @@ final class Promise10DepthTest {
         check.step(desk, "", Check.by(0, 3, 0, 6, 0, 0), "#");
         check.step(desk, "p(f(c))|p(a)|~a=f(c)", Check.by(4, 4, 0, 7, 0, 0), "p(f(c))|p(a)|~a=f(c)");
         check.step(desk, "", Check.by(1, 4, 0, 7, 1, 0), "p(a)|~a=a");
-        int[] due = {0, 0, 0, 0, 1, 2, 3, 4, 2, 2};
+        check.step(desk, "", Check.by(0, 6, 0, 3, 0, 0), "#");
+        int[] due = {0, 0, 0, 0, 1, 2, 3, 4, 2, 2, 4};
         for (int clause = 0; clause < due.length; clause++) {
             check.is("depth of " + clause, desk.depth(clause), due[clause]);
         }
-        for (int none : new int[] {-1, 10, 30, Integer.MIN_VALUE, Integer.MAX_VALUE}) {
+        for (int none : new int[] {-1, 11, 30, Integer.MIN_VALUE, Integer.MAX_VALUE}) {
             check.is("depth of " + none, desk.depth(none), -1);
         }
         deep(check);
