@@ -8,11 +8,16 @@ final class Check {
     static final int UNSUPPORTED = -1005;
 
     private int wrong;
+    private String sentence = "";
+
+    /** The words of the document that the next answers are held against; they are told with a wrong one. */
+    void sentence(String words) {
+        sentence = "'" + words + "': ";
+    }
 
     void is(String what, long got, long want) {
         if (got != want) {
-            wrong++;
-            System.out.println(what + " answered " + got + ", due is " + want);
+            tell(what, "" + got, "" + want);
         }
     }
 
@@ -22,9 +27,13 @@ final class Check {
 
     void is(String what, String got, String want) {
         if (!got.equals(want)) {
-            wrong++;
-            System.out.println(what + " answered " + got + ", due is " + want);
+            tell(what, got, want);
         }
+    }
+
+    private void tell(String what, String got, String want) {
+        wrong++;
+        System.out.println(sentence + what + " answered " + got + ", due is " + want);
     }
 
     void end() {
@@ -43,6 +52,29 @@ final class Check {
 
     void given(ProofDesk desk, String text, int due) {
         given(desk, text, due, 0);
+    }
+
+    /** Each text is a clause for a new object, and is kept as it stands. */
+    void read(String... texts) {
+        for (String text : texts) {
+            readAs(text, text);
+        }
+    }
+
+    /** A text is a clause for a new object, which is then kept as due. */
+    void readAs(String text, String due) {
+        ProofDesk desk = new ProofDesk();
+        given(desk, text, 0);
+        is("text of " + text, text(desk, 0), due);
+    }
+
+    /** None of the texts is a clause for a new object. */
+    void unread(int fault, String... texts) {
+        for (String text : texts) {
+            ProofDesk desk = new ProofDesk();
+            given(desk, text, ARGUMENT, fault);
+            is("clauses after " + text, desk.clauses(), 0);
+        }
     }
 
     /** A step that is right; the clause that it makes is looked at, too. */
@@ -118,8 +150,10 @@ final class Check {
 
     static String text(ProofDesk desk, int clause) {
         StringBuilder out = new StringBuilder();
-        for (int at = 0; at < 1000 && desk.letter(clause, at) >= 0; at++) {
-            out.append((char) desk.letter(clause, at));
+        int code = desk.letter(clause, 0);
+        while (code >= 0 && out.length() < 1000) {
+            out.append((char) code);
+            code = desk.letter(clause, out.length());
         }
         return out.toString();
     }

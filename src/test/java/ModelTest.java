@@ -2,7 +2,10 @@ import java.util.Arrays;
 import java.util.Map;
 import java.util.TreeMap;
 
-/** Plays the same runs of calls on the program and on the model, and compares all that can be asked for. */
+/**
+ * Plays the same runs of calls on the program and on the model, and compares all that can be asked for. Long runs go
+ * beyond the 512 calls of the document: this program does not count its calls, and so more is compared in each run.
+ */
 final class ModelTest {
     private static final int RUNS = 1500;
     private static final String[] WILD = {"~", "|", "=", "(", ")", ",", "#", " ", "A", "a", "p", "!", "x", "f"};

@@ -11,6 +11,7 @@ final class Promise04StepClaimTest {
         check.step(desk, "q(f(Z),A)|~r(A)|f(Z)=B|t", RESOLVE, made);
         check.step(desk, "q(f(B),A)|~r(A)|f(B)=C|t", RESOLVE, made);
         check.step(desk, "q(f(A),B)|~r(B)|q(f(A),B)|f(A)=C|t|t", RESOLVE, made);
+        desk = Check.deskWith("p(X)|q(X,Y)|~r(Y)|X=Z", "~p(f(U))|t");
         for (String claim : new String[] {
             "q(f(A),A)|~r(A)|f(A)=C|t", "q(f(A),B)|~r(C)|f(A)=B|t", "q(f(A),B)|~r(B)|f(A)=B|t",
             "q(f(A),B)|~r(B)|f(D)=C|t", "~r(B)|q(f(A),B)|f(A)=C|t", "q(f(A),B)|~r(B)|C=f(A)|t",
@@ -21,7 +22,7 @@ final class Promise04StepClaimTest {
         check.refused(desk, "q(f(A),B)|~r(B)|f(A)=C|", RESOLVE, -1);
         check.refused(desk, " ", RESOLVE, -1);
         check.refused(desk, "q(f(A))", RESOLVE, -2);
-        check.given(desk, "a(w)", 7);
+        check.given(desk, "a(w)", 2);
         ProofDesk empty = Check.deskWith("p", "~p", "q(X)|q(a)", "~X=a|q(X)", "a=b|q(b)");
         check.step(empty, "#", RESOLVE, "#");
         check.refused(empty, "p", RESOLVE, -8);

@@ -29,9 +29,8 @@ final class Promise04StepOrderTest {
     }
 
     private static void thenWhatIsNotThere(Check check) {
-        ProofDesk desk = Check.deskWith("p(X)|a=X", "~p(a)");
-        int[] bad = {Integer.MIN_VALUE, -1, 2, 30, Integer.MAX_VALUE};
-        for (int number : bad) {
+        for (int number : new int[] {Integer.MIN_VALUE, -1, 2, 30, Integer.MAX_VALUE}) {
+            ProofDesk desk = Check.deskWith("p(X)|a=X", "~p(a)");
             for (String claim : new String[] {"", "p(", "p", "p(X)"}) {
                 check.refused(desk, claim, Check.by(0, number, 0, 1, 0, 0), -4);
                 check.refused(desk, claim, Check.by(0, 0, number, 1, 0, 0), -4);
@@ -43,6 +42,7 @@ final class Promise04StepOrderTest {
                 check.refused(desk, claim, Check.by(4, number, 0, 0, 0, 0), -4);
             }
         }
+        ProofDesk desk = Check.deskWith("p(X)|a=X", "~p(a)");
         for (int rule : new int[] {Integer.MIN_VALUE, -1, 5, 100, Integer.MAX_VALUE}) {
             check.refused(desk, "", Check.by(rule, 0, 0, 1, 0, 0), -4);
             check.refused(desk, "p(", Check.by(rule, 0, 0, 1, 0, 0), -4);

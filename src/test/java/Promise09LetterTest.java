@@ -31,10 +31,10 @@ final class Promise09LetterTest {
         check.step(desk, "", Check.by(0, 0, 0, 2, 0, 0), deep);
         check.given(desk, "~q(f(f(f(f(f(f(f(f(f(f(f(Z))))))))))))|p(f(f(f(Z))))", 5);
         check.step(desk, "", Check.by(0, 4, 0, 5, 0, 0), "p(" + "f(".repeat(17) + "A" + ")".repeat(18));
-        check.given(desk, "f(f(f(f(f(f(f(f(f(f(f(f(b))))))))))))=b", 7);
-        check.step(desk, "", Check.by(3, 7, 0, 7, 0, 112), "f(".repeat(24) + "b" + ")".repeat(24) + "=b");
-        check.step(desk, "", Check.by(3, 7, 0, 8, 0, 124), "f(".repeat(36) + "b" + ")".repeat(36) + "=b");
-        check.is("size", desk.size(9), 39);
-        check.refused(desk, "", Check.by(3, 7, 0, 9, 0, 136), -7);
+        desk = Check.deskWith("f(f(f(f(f(f(f(f(f(f(f(f(b))))))))))))=b");
+        check.step(desk, "", Check.by(3, 0, 0, 0, 0, 112), "f(".repeat(24) + "b" + ")".repeat(24) + "=b");
+        check.step(desk, "", Check.by(3, 0, 0, 1, 0, 124), "f(".repeat(36) + "b" + ")".repeat(36) + "=b");
+        check.is("size", desk.size(2), 39);
+        check.refused(desk, "", Check.by(3, 0, 0, 2, 0, 136), -7);
     }
 }

@@ -11,7 +11,7 @@ final class Promise11NeedsTest {
         check.given(desk, "s|s|t", 10);
         int[][] due = {{0}, {1}, {2}, {3}, {4}, {0, 2}, {0, 2, 3}, {0, 2, 4}, {1}, {4}, {10}};
         for (int clause = 0; clause < due.length; clause++) {
-            for (int need = -40; need < 80; need++) {
+            for (int need = -2; need < 14; need++) {
                 boolean found = false;
                 for (int number : due[clause]) {
                     found = found || number == need;
