@@ -933,15 +933,17 @@ public final class ProofDesk {
     /** Looks for a substitution that makes each literal of a general clause one of a special clause. */
     private static final class Matcher {
         private final int[] terms;
-        private final int[] owners;
+        private final int[] bound;
+        private int many;
 
         Matcher() {
             terms = new int[MAX_VARIABLES];
-            owners = new int[MAX_VARIABLES];
+            bound = new int[MAX_VARIABLES];
         }
 
         boolean canSpecialise(Form general, Form special) {
             Arrays.fill(terms, -1);
+            many = 0;
             return matchFrom(general, 0, special);
         }
 
@@ -950,11 +952,12 @@ public final class ProofDesk {
             if (literal >= general.count || literal >= MAX_LITERALS) {
                 return true;
             }
+            int before = many;
             for (int partner = 0; partner < special.count; partner++) {
                 if (matchLiteral(general, literal, special, partner) && matchFrom(general, literal + 1, special)) {
                     return true;
                 }
-                release(literal);
+                release(before);
             }
             return false;
         }
@@ -974,7 +977,7 @@ public final class ProofDesk {
                 boolean same = symbol == special.symbols[at];
                 if (Symbol.isVariable(symbol)) {
                     next = special.termEnd(at);
-                    same = bind(Symbol.variable(symbol), literal, special, at, next);
+                    same = bind(Symbol.variable(symbol), special, at, next);
                 }
                 if (!same) {
                     return false;
@@ -984,23 +987,27 @@ public final class ProofDesk {
             return at == end;
         }
 
-        private boolean bind(int variable, int literal, Form special, int from, int to) {
+        private boolean bind(int variable, Form special, int from, int to) {
             if (variable >= MAX_VARIABLES) {
                 return false;
             }
-            if (terms[variable] < 0) {
-                terms[variable] = from;
-                owners[variable] = literal;
-                return true;
+            if (terms[variable] >= 0) {
+                return special.hasSameSymbols(terms[variable], from, to - from);
             }
-            return special.hasSameSymbols(terms[variable], from, to - from);
+            if (many >= MAX_VARIABLES) {
+                return false;
+            }
+            terms[variable] = from;
+            bound[many] = variable;
+            many++;
+            return true;
         }
 
-        private void release(int literal) {
-            for (int variable = 0; variable < MAX_VARIABLES; variable++) {
-                if (terms[variable] >= 0 && owners[variable] >= literal) {
-                    terms[variable] = -1;
-                }
+        /** Only the latest are looked at, because the search comes here after every try. */
+        private void release(int before) {
+            while (many > before) {
+                many--;
+                terms[bound[many]] = -1;
             }
         }
     }
